@@ -1,0 +1,30 @@
+/** Counts the answers that are not due, and prints them. */
+final class Due {
+    private static int checked = 0;
+    private static int wrong = 0;
+
+    private Due() {
+    }
+
+    static void due(String call, long got, long want) {
+        checked++;
+        if (got != want) {
+            wrong++;
+            System.out.println(call + " answered " + got + ", due is " + want);
+        }
+    }
+
+    static void dueTrue(String what, boolean holds) {
+        due(what, holds ? 1 : 0, 1);
+    }
+
+    static int wrongOnes() {
+        return wrong;
+    }
+
+    /** Ends the test, with exit code 1 if an answer was wrong. */
+    static void end(String test) {
+        System.out.println(test + ": " + checked + " answers, " + wrong + " wrong");
+        System.exit(wrong == 0 && checked > 0 ? 0 : 1);
+    }
+}
