@@ -74,7 +74,7 @@ public final class PileSets {
         if (stratum >= MOST_STRATA) {
             return LIMIT_REACHED;
         }
-        history.record(now);
+        history.remember(now);
         now.ground.put(stratum, thickness, resistance);
         return now.ground.strata;
     }
@@ -83,7 +83,7 @@ public final class PileSets {
         if (now.ground.strata <= 1) {
             return NOT_POSSIBLE;
         }
-        history.record(now);
+        history.remember(now);
         now.ground.removeLast();
         return now.ground.strata;
     }
@@ -118,7 +118,7 @@ public final class PileSets {
         if (!isSetting(what) || !inRange(value, LEAST_SETTINGS[what], MOST_SETTINGS[what])) {
             return INVALID_ARGUMENT;
         }
-        history.record(now);
+        history.remember(now);
         int previous = now.setting(what);
         now.changeSetting(what, value);
         return previous;
@@ -171,7 +171,7 @@ public final class PileSets {
         if (now.placed >= MOST_PILES) {
             return LIMIT_REACHED;
         }
-        history.record(now);
+        history.remember(now);
         return now.place(x, y, length);
     }
 
@@ -232,7 +232,7 @@ public final class PileSets {
         if (struck.left() <= 0) {
             return NOT_POSSIBLE;
         }
-        history.record(now);
+        history.remember(now);
         return now.hit(struck, fall);
     }
 
@@ -244,7 +244,7 @@ public final class PileSets {
         if (driven.left() <= 0) {
             return NOT_POSSIBLE;
         }
-        history.record(now);
+        history.remember(now);
         int blows = 0;
         boolean goesOn = true;
         while (goesOn && blows < most) {
@@ -298,7 +298,7 @@ public final class PileSets {
         if (tested == null || !inRange(force, 1, MOST_FORCE)) {
             return INVALID_ARGUMENT;
         }
-        history.record(now);
+        history.remember(now);
         return now.loadWith(tested, force);
     }
 
@@ -386,7 +386,7 @@ public final class PileSets {
         if (text.findFault(now.placed) != 0) {
             return NOT_POSSIBLE;
         }
-        history.record(now);
+        history.remember(now);
         int made = 0;
         int start = 0;
         for (int part = 0; part < TEXT_SIZE && text.readPart(start); part++) {
@@ -826,7 +826,7 @@ public final class PileSets {
         }
 
         /** The rooms go round, so that the oldest state is the one that is written over. */
-        private void record(State now) {
+        private void remember(State now) {
             State room = roomAt(next);
             if (room != null) {
                 room.copyFrom(now);
@@ -910,6 +910,8 @@ public final class PileSets {
     /** Tries the orders of the piles without blows, on feet of its own, so that nothing changes. */
     private static final class OrderFinder {
         private final int[] feet = new int[MOST_PILES];
+        private final int[] near = new int[MOST_PILES];
+        private int nearOnes;
         private final int[] tried = new int[MOST_ORDERED];
         private final int[] best = new int[MOST_ORDERED];
         private int size;
@@ -929,7 +931,8 @@ public final class PileSets {
                     leastSum = sum;
                     System.arraycopy(tried, 0, best, 0, MOST_ORDERED);
                 }
-                more = nextOrder();
+                // No order has less than no lift, and of those without lift the first one counts.
+                more = leastSum > 0 && nextOrder();
             }
         }
 
@@ -966,22 +969,34 @@ public final class PileSets {
             if (struck == null || number < 0 || number >= feet.length) {
                 return 0;
             }
+            findNear(state, struck);
             int sum = 0;
             for (int blow = 0; blow < blows && feet[number] < struck.length; blow++) {
                 int set = state.setOf(energy, feet[number], struck.length);
                 feet[number] += set;
-                sum += liftOthers(state, struck, feet[number], state.liftBy(set));
+                sum += liftNear(feet[number], state.liftBy(set));
             }
             return sum;
         }
 
-        private int liftOthers(State state, Pile struck, int struckFoot, int lift) {
-            int sum = 0;
-            for (int i = 0; i < state.placed && i < feet.length; i++) {
+        private void findNear(State state, Pile struck) {
+            nearOnes = 0;
+            for (int i = 0; i < state.placed && nearOnes < near.length; i++) {
                 Pile other = state.pileAt(i);
                 if (other != null && state.areNear(struck, other)) {
-                    int lifted = liftOf(feet[i], struckFoot, lift);
-                    feet[i] -= lifted;
+                    near[nearOnes] = i;
+                    nearOnes++;
+                }
+            }
+        }
+
+        private int liftNear(int struckFoot, int lift) {
+            int sum = 0;
+            for (int i = 0; i < nearOnes && i < near.length && lift > 0; i++) {
+                int other = near[i];
+                if (other >= 0 && other < feet.length) {
+                    int lifted = liftOf(feet[other], struckFoot, lift);
+                    feet[other] -= lifted;
                     sum += lifted;
                 }
             }

@@ -52,10 +52,7 @@ final class FaceTest {
 
     private static void methods() {
         TreeSet<String> face = new TreeSet<>(List.of(METHODS));
-        TreeSet<String> names = new TreeSet<>();
-        for (String method : METHODS) {
-            names.add(method.substring(method.indexOf(' ') + 1, method.indexOf('(')));
-        }
+        TreeSet<String> names = names();
         TreeSet<String> found = new TreeSet<>();
         for (Method method : PileSets.class.getDeclaredMethods()) {
             if (Modifier.isPrivate(method.getModifiers())) {
@@ -69,6 +66,14 @@ final class FaceTest {
             System.out.println("the face is " + found);
         }
         Due.dueTrue("the methods are those of the document", found.equals(face));
+    }
+
+    private static TreeSet<String> names() {
+        TreeSet<String> names = new TreeSet<>();
+        for (String method : METHODS) {
+            names.add(method.substring(method.indexOf(' ') + 1, method.indexOf('(')));
+        }
+        return names;
     }
 
     private static String textOf(Method method) {
@@ -95,6 +100,10 @@ final class FaceTest {
         for (Class<?> inside : PileSets.class.getDeclaredClasses()) {
             Due.dueTrue(inside + " is static", Modifier.isStatic(inside.getModifiers()));
             Due.dueTrue(inside + " is not public", !Modifier.isPublic(inside.getModifiers()));
+            for (Method method : inside.getDeclaredMethods()) {
+                Due.dueTrue(method + " is private", Modifier.isPrivate(method.getModifiers()));
+                Due.dueTrue(method + " has no public name", !names().contains(method.getName()));
+            }
         }
     }
 

@@ -8,8 +8,10 @@ final class PilesTest {
         strikeErrors();
         setBounds();
         layersOfOneBlow();
+        oneIsLeft();
         loads();
         keptBlows();
+        keptLoads();
         lifts();
         looseness();
         drives();
@@ -162,6 +164,23 @@ final class PilesTest {
         Due.due("work in the rock", x.count(21), 134 * 20 + 102 * 200 + 18 * 2000);
     }
 
+    private static void oneIsLeft() {
+        PileSets x = new PileSets();
+        x.pile(0, 0, 1000);
+        GroundTest.pressTo(x, 0, 999);
+        Due.due("would", x.would(0, 1000), 1);
+        Due.due("fallFor", x.fallFor(0, 1), 100);
+        Due.due("blowsTo", x.blowsTo(0, 1000, 1000), 1);
+        Due.due("strike", x.strike(0, 1000), 1);
+        x.undo();
+        Due.due("drive", x.drive(0, 1000, 500, 9), 1);
+        PileSets y = new PileSets();
+        y.pile(0, 0, 1000);
+        GroundTest.pressTo(y, 0, 722);
+        Due.due("277 of 278 left, then 1", y.drive(0, 1000, 0, 9), 2);
+        Due.due("the last set", y.blow(0, 0, 0), 1);
+    }
+
     private static void loads() {
         PileSets x = new PileSets();
         x.pile(0, 0, 5000);
@@ -187,6 +206,19 @@ final class PilesTest {
         x.set(2, 50);
         Due.due("the load stays when the loss changes", x.pileOf(0, 5), 2000);
         loadAtTheEnd();
+        loadOfLossAlone();
+    }
+
+    private static void loadOfLossAlone() {
+        PileSets x = new PileSets();
+        x.pile(0, 0, 5000);
+        x.stratum(0, 100, 500);
+        x.set(2, 1);
+        x.set(0, 100);
+        Due.due("no set", x.strike(0, 3000), 3);
+        Due.due("its load", x.pileOf(0, 5), 2100 / 4);
+        Due.due("no set", x.strike(0, 500), 0);
+        Due.due("its load is the energy", x.pileOf(0, 5), 350);
     }
 
     /** Less of the length is left than the set would be, so that the load becomes large. */
@@ -203,6 +235,25 @@ final class PilesTest {
         Due.due("at most 100000", x.pileOf(0, 5), 100000);
         Due.due("three are left", x.strike(1, 2990), 3);
         Due.due("below 100000", x.pileOf(1, 5), 99666);
+    }
+
+    /** All sets are 500, so that the loads differ. */
+    private static void keptLoads() {
+        PileSets x = new PileSets();
+        x.stratum(0, 20000, 10);
+        x.stratum(1, 20000, 10);
+        x.set(2, 0);
+        x.pile(0, 0, 50000);
+        for (int i = 0; i < 43; i++) {
+            Due.due("set", x.strike(0, 1000 + 40 * i), 500);
+        }
+        for (int index = 0; index < 40; index++) {
+            Due.due("load " + index, x.blow(0, index, 1), (1000 + 40 * (42 - index)) * 14 / 500);
+        }
+        x.strike(0, 2900);
+        x.undo();
+        Due.due("latest after undo", x.blow(0, 0, 1), (1000 + 40 * 42) * 14 / 500);
+        Due.due("earliest after undo", x.blow(0, 39, 1), (1000 + 40 * 3) * 14 / 500);
     }
 
     private static void keptBlows() {
@@ -267,6 +318,13 @@ final class PilesTest {
         Due.due("lift of the second", x.pileOf(2, 9), 27 + 138);
         Due.due("no lift at depth 0", x.pileOf(1, 9), 5);
         Due.due("lift of the third", x.pileOf(3, 9), 0);
+        PileSets y = new PileSets();
+        y.pile(0, 0, 5000);
+        y.pile(1, 0, 5000);
+        GroundTest.pressTo(y, 0, 1);
+        y.strike(1, 1000);
+        Due.due("a foot at 1 is lifted by 1", y.pileOf(0, 9), 1);
+        Due.due("and loose", y.pileOf(0, 7), 1);
     }
 
     private static void looseness() {
@@ -439,6 +497,12 @@ final class PilesTest {
         Due.due("no set in the rock", x.blowsTo(0, 428, 3000), -4);
         Due.due("which plays no part before", x.blowsTo(0, 428, 2100) > 0 ? 1 : 0, 1);
         Due.due("nothing changes", x.count(4), changes);
+        // The energy 5992 makes 119 in the first stratum and 11 in the thin one, less the loss.
+        x.set(2, 10);
+        Due.due("a set of 1", x.blowsTo(0, 428, 1100), 10 + 10);
+        x.set(2, 11);
+        Due.due("a set of 0", x.blowsTo(0, 428, 1100), -4);
+        x.set(2, 3);
         x.drive(0, 1000, 0, 5);
         Due.due("there", x.blowsTo(0, 1000, 1245), 0);
         Due.due("deeper", x.blowsTo(0, 1000, 1000), 0);
@@ -481,6 +545,14 @@ final class PilesTest {
         x.stratum(0, 100, 50);
         Due.due("rock holds 20010", x.test(0, 20010), 0);
         Due.due("pressed in all then", x.count(24), 1000);
+        PileSets y = new PileSets();
+        y.pile(0, 0, 20000);
+        GroundTest.pressTo(y, 0, 5000);
+        GroundTest.pressTo(y, 0, 9999);
+        Due.due("500 and 99 hold", y.test(0, 599), 0);
+        Due.due("600 does not", y.test(0, 600), 1);
+        Due.due("in the rock 20100 holds", y.test(0, 20100), 0);
+        Due.due("in the rock 20101 does not", y.test(0, 20101), 1);
         looseAtTheLength();
     }
 

@@ -52,6 +52,11 @@ final class RecordsTest {
         write(x, "0:100");
         dueFault("cut short", x, 0, 1);
         x.clearText();
+        write(x, "0:100;");
+        x.clearText();
+        write(x, "0:100");
+        dueFault("cut short by one", x, 0, 1);
+        x.clearText();
         Due.due("none is no fault", x.fault(1), -4);
     }
 
@@ -192,6 +197,11 @@ final class RecordsTest {
         Due.due("again", x.carry(), 0);
         Due.due("is a change", x.count(4), 4);
         Due.due("changes nothing", x.count(3), 4);
+        PileSets z = new PileSets();
+        z.pile(0, 0, 1000);
+        GroundTest.pressTo(z, 0, 999);
+        write(z, "0:1000*2;");
+        Due.due("one is left", z.carry(), 1);
         PileSets y = new PileSets();
         y.set(5, 50);
         y.pile(0, 0, 1000);
