@@ -5,6 +5,7 @@ final class OrdersTest {
         noPiles();
         tooMany();
         deepestFirst();
+        eachOrder();
         firstOneOfSeveral();
         drivenOnesAreLiftedToo();
         pressedOnesCanNotBeStruck();
@@ -84,6 +85,27 @@ final class OrdersTest {
         dueOrder("alike", x, 3000, 2, 0, 1, 2, 3, 4);
         x.set(5, 0);
         dueOrder("with no lift at all", x, 3000, 20, 0, 1, 2, 3, 4);
+    }
+
+    /** Each of the 120 orders is the one with the least lift for some lengths. */
+    private static void eachOrder() {
+        int seen = 0;
+        for (int code = 0; code < 3125; code++) {
+            int[] order = {code / 625, code / 125 % 5, code / 25 % 5, code / 5 % 5, code % 5};
+            int[] lengths = new int[5];
+            for (int i = 0; i < 5; i++) {
+                lengths[order[i]] = 5000 - 1000 * i;
+            }
+            if (lengths[0] * lengths[1] * lengths[2] * lengths[3] * lengths[4] != 0) {
+                seen++;
+                PileSets x = new PileSets();
+                for (int i = 0; i < 5; i++) {
+                    x.pile(i, i, lengths[i]);
+                }
+                dueOrder("longest first", x, 3000, 10, order);
+            }
+        }
+        Due.due("orders", seen, 120);
     }
 
     private static void firstOneOfSeveral() {
