@@ -2,15 +2,22 @@
 final class Due {
     private static int checked = 0;
     private static int wrong = 0;
+    private static String words = "";
 
     private Due() {
+    }
+
+    /** The words of the document that are told with each wrong answer from here on. */
+    static void about(String newWords) {
+        words = newWords;
     }
 
     static void due(String call, long got, long want) {
         checked++;
         if (got != want) {
             wrong++;
-            System.out.println(call + " answered " + got + ", due is " + want);
+            String where = words.isEmpty() ? "" : "'" + words + "': ";
+            System.out.println(where + call + " answered " + got + ", due is " + want);
         }
     }
 

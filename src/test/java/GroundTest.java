@@ -131,23 +131,14 @@ final class GroundTest {
         x.pile(0, 0, 9000);
         x.pile(1, 0, 9000);
         x.pile(2, 0, 9000);
-        pressTo(x, 1, 1999);
-        pressTo(x, 2, 2000);
+        Made.pressTo(x, 1, 1999);
+        Made.pressTo(x, 2, 2000);
         Due.due("feet in the first", x.ground(0, 3), 2);
         Due.due("feet in the second", x.ground(1, 3), 1);
-        pressTo(x, 1, 4999);
-        pressTo(x, 2, 5000);
+        Made.pressTo(x, 1, 4999);
+        Made.pressTo(x, 2, 5000);
         Due.due("feet in the first then", x.ground(0, 3), 1);
         Due.due("feet in the second then", x.ground(1, 3), 1);
-    }
-
-    /** Brings a foot to a depth by tests, for they lift nothing. */
-    static void pressTo(PileSets x, int pile, int depth) {
-        int foot = x.pileOf(pile, 3);
-        int layer = x.at(foot);
-        int held = (layer < 0 ? 2000 : x.ground(layer, 1)) * 10 + foot / 100;
-        x.test(pile, held + (depth - foot - 1) * 10 + 1);
-        Due.due("pressed to", x.pileOf(pile, 3), depth);
     }
 
     private static void depths() {

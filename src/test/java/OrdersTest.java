@@ -145,7 +145,7 @@ final class OrdersTest {
         x.pile(0, 0, 1000);
         x.pile(10, 0, 3000);
         x.pile(20, 0, 3000);
-        GroundTest.pressTo(x, 0, 1000);
+        Made.pressTo(x, 0, 1000);
         // The first one is at its length until the others lift it; wherever it is driven, the sum is the same.
         dueOrder("first", x, 1000, 5, 0, 1, 2);
         Due.due("lifts", x.leastLift(1000, 5), 4 * 27);

@@ -167,7 +167,7 @@ final class PilesTest {
     private static void oneIsLeft() {
         PileSets x = new PileSets();
         x.pile(0, 0, 1000);
-        GroundTest.pressTo(x, 0, 999);
+        Made.pressTo(x, 0, 999);
         Due.due("would", x.would(0, 1000), 1);
         Due.due("fallFor", x.fallFor(0, 1), 100);
         Due.due("blowsTo", x.blowsTo(0, 1000, 1000), 1);
@@ -176,7 +176,7 @@ final class PilesTest {
         Due.due("drive", x.drive(0, 1000, 500, 9), 1);
         PileSets y = new PileSets();
         y.pile(0, 0, 1000);
-        GroundTest.pressTo(y, 0, 722);
+        Made.pressTo(y, 0, 722);
         Due.due("277 of 278 left, then 1", y.drive(0, 1000, 0, 9), 2);
         Due.due("the last set", y.blow(0, 0, 0), 1);
     }
@@ -200,7 +200,7 @@ final class PilesTest {
         x.set(0, 10000);
         x.set(1, 100);
         x.stratum(0, 100, 500);
-        GroundTest.pressTo(x, 0, 100);
+        Made.pressTo(x, 0, 100);
         Due.due("set in the rock", x.strike(0, 3000), 149);
         Due.due("its load", x.pileOf(0, 5), 2000);
         x.set(2, 50);
@@ -229,8 +229,8 @@ final class PilesTest {
         x.set(2, 0);
         x.set(0, 10000);
         x.set(1, 100);
-        GroundTest.pressTo(x, 0, 999);
-        GroundTest.pressTo(x, 1, 997);
+        Made.pressTo(x, 0, 999);
+        Made.pressTo(x, 1, 997);
         Due.due("one is left", x.strike(0, 3000), 1);
         Due.due("at most 100000", x.pileOf(0, 5), 100000);
         Due.due("three are left", x.strike(1, 2990), 3);
@@ -289,10 +289,10 @@ final class PilesTest {
         for (int i = 0; i < 5; i++) {
             x.pile(1000 * i, 0, 20000);
         }
-        GroundTest.pressTo(x, 1, 5);
-        GroundTest.pressTo(x, 2, 276);
-        GroundTest.pressTo(x, 3, 277);
-        GroundTest.pressTo(x, 4, 100);
+        Made.pressTo(x, 1, 5);
+        Made.pressTo(x, 2, 276);
+        Made.pressTo(x, 3, 277);
+        Made.pressTo(x, 4, 100);
         x.set(5, 10);
         Due.due("strike", x.strike(0, 1000), 277);
         Due.due("up to 0 alone", x.pileOf(1, 3), 0);
@@ -321,7 +321,7 @@ final class PilesTest {
         PileSets y = new PileSets();
         y.pile(0, 0, 5000);
         y.pile(1, 0, 5000);
-        GroundTest.pressTo(y, 0, 1);
+        Made.pressTo(y, 0, 1);
         y.strike(1, 1000);
         Due.due("a foot at 1 is lifted by 1", y.pileOf(0, 9), 1);
         Due.due("and loose", y.pileOf(0, 7), 1);
@@ -335,7 +335,7 @@ final class PilesTest {
         x.set(5, 1);
         // A set of 99 lifts by 0, one of 100 by 1.
         x.stratum(0, 10000, 14);
-        GroundTest.pressTo(x, 1, 1000);
+        Made.pressTo(x, 1, 1000);
         x.set(2, 1);
         Due.due("set 99", x.strike(1, 100), 99);
         Due.due("not loose", x.pileOf(0, 7), 0);
@@ -431,11 +431,11 @@ final class PilesTest {
         Due.due("no change", x.count(4), 1);
         Due.due("no blow", x.count(3), 0);
         Due.due("no depth", x.pileOf(0, 3), 0);
-        GroundTest.pressTo(x, 0, 990);
+        Made.pressTo(x, 0, 990);
         Due.due("what is left", x.would(0, 1000), 10);
         x.set(2, 50);
         Due.due("not below 0", x.would(0, 100), 0);
-        GroundTest.pressTo(x, 0, 1000);
+        Made.pressTo(x, 0, 1000);
         Due.due("at the length", x.would(0, 1000), -2);
         Due.due("at the length with a wrong fall", x.would(0, 3001), -1);
     }
@@ -456,13 +456,13 @@ final class PilesTest {
         Due.due("it is enough", x.would(0, 1797), 500);
         Due.due("less is not", x.would(0, 1796), 499);
         Due.due("no change", x.count(4), 1);
-        GroundTest.pressTo(x, 0, 900);
+        Made.pressTo(x, 0, 900);
         Due.due("set 100 of 100 left", x.fallFor(0, 100), 368);
         Due.due("set 101 of 100 left", x.fallFor(0, 101), -4);
         x.stratum(0, 100, 1);
         Due.due("in the rock", x.fallFor(0, 18), 3000);
         Due.due("in the rock no more", x.fallFor(0, 19), -4);
-        GroundTest.pressTo(x, 0, 1000);
+        Made.pressTo(x, 0, 1000);
         Due.due("at the length", x.fallFor(0, 0), -2);
         Due.due("at the length, none anyway", x.fallFor(0, 400), -2);
         Due.due("at the length, wrong set", x.fallFor(0, 501), -1);
@@ -508,7 +508,7 @@ final class PilesTest {
         Due.due("deeper", x.blowsTo(0, 1000, 1000), 0);
         Due.due("there, though no blow has a set", x.blowsTo(0, 100, 1245), 0);
         Due.due("one more", x.blowsTo(0, 1000, 1246), 1);
-        GroundTest.pressTo(x, 0, 3000);
+        Made.pressTo(x, 0, 3000);
         Due.due("at the length", x.blowsTo(0, 1000, 3000), 0);
     }
 
@@ -547,8 +547,8 @@ final class PilesTest {
         Due.due("pressed in all then", x.count(24), 1000);
         PileSets y = new PileSets();
         y.pile(0, 0, 20000);
-        GroundTest.pressTo(y, 0, 5000);
-        GroundTest.pressTo(y, 0, 9999);
+        Made.pressTo(y, 0, 5000);
+        Made.pressTo(y, 0, 9999);
         Due.due("500 and 99 hold", y.test(0, 599), 0);
         Due.due("600 does not", y.test(0, 600), 1);
         Due.due("in the rock 20100 holds", y.test(0, 20100), 0);
@@ -561,8 +561,8 @@ final class PilesTest {
         x.pile(0, 0, 1000);
         x.pile(1, 0, 5000);
         x.set(5, 50);
-        GroundTest.pressTo(x, 0, 1000);
-        GroundTest.pressTo(x, 1, 1000);
+        Made.pressTo(x, 0, 1000);
+        Made.pressTo(x, 1, 1000);
         x.strike(1, 1000);
         Due.due("lifted", x.pileOf(0, 9), 138);
         Due.due("loose without a blow", x.pileOf(0, 7), 1);
@@ -611,13 +611,11 @@ final class PilesTest {
 
     /** Everything but the text comes back: what is asked ahead of a change is answered alike behind its undo. */
     private static void undoAll() {
-        PileSets x = new PileSets();
-        x.pile(0, 0, 5000);
-        x.pile(1, 0, 5000);
-        x.stratum(1, 3000, 70);
-        x.strike(0, 1000);
-        x.strike(1, 1500);
         for (int change = 0; change < 8; change++) {
+            PileSets x = Made.with(5000, 5000);
+            x.stratum(1, 3000, 70);
+            x.strike(0, 1000);
+            x.strike(1, 1500);
             long[] before = look(x);
             switch (change) {
                 case 0 -> x.stratum(0, 500, 60);
@@ -634,7 +632,6 @@ final class PilesTest {
             for (int i = 0; i < before.length; i++) {
                 Due.due("undo of change " + change + ", look " + i, then[i], before[i]);
             }
-            x.set(3, 200);
         }
     }
 

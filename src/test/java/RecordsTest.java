@@ -40,31 +40,24 @@ final class RecordsTest {
     private static void clearing() {
         PileSets x = new PileSets();
         Due.due("empty", x.clearText(), 0);
-        write(x, "abc");
+        Made.write(x, "abc");
         Due.due("three", x.clearText(), 3);
         Due.due("then none", x.count(5), 0);
         Due.due("none", x.clearText(), 0);
         Due.due("no change", x.count(4), 0);
         // What was in the text before is not read any more.
         x.pile(0, 0, 5000);
-        write(x, "0:1000;");
+        Made.write(x, "0:1000;");
         x.clearText();
-        write(x, "0:100");
+        Made.write(x, "0:100");
         dueFault("cut short", x, 0, 1);
         x.clearText();
-        write(x, "0:100;");
+        Made.write(x, "0:100;");
         x.clearText();
-        write(x, "0:100");
+        Made.write(x, "0:100");
         dueFault("cut short by one", x, 0, 1);
         x.clearText();
         Due.due("none is no fault", x.fault(1), -4);
-    }
-
-    private static void write(PileSets x, String text) {
-        for (int i = 0; i < text.length(); i++) {
-            x.type(text.charAt(i));
-        }
-        Due.due("written " + text, x.count(5) >= text.length() ? 1 : 0, 1);
     }
 
     private static void dueFault(String name, PileSets x, int position, int reason) {
@@ -77,7 +70,7 @@ final class RecordsTest {
         PileSets x = new PileSets();
         x.pile(0, 0, 50000);
         x.pile(1, 0, 50000);
-        write(x, text);
+        Made.write(x, text);
         dueFault("'" + text + "'", x, reason == 0 ? -4 : position, reason == 0 ? -4 : reason);
         Due.due("'" + text + "' carried", x.carry() == -2 ? 1 : 0, reason == 0 ? 0 : 1);
         Due.due("'" + text + "' stays", x.count(5), text.length());
@@ -115,7 +108,7 @@ final class RecordsTest {
         dueText("2:100;", 0, 2);
         dueText("9:3000*40;", 0, 2);
         PileSets x = new PileSets();
-        write(x, "0:100;");
+        Made.write(x, "0:100;");
         dueFault("no piles", x, 0, 2);
         Due.due("not possible", x.carry(), -2);
         x.pile(0, 0, 5000);
@@ -165,7 +158,7 @@ final class RecordsTest {
         PileSets x = new PileSets();
         x.pile(0, 0, 5000);
         x.pile(1, 0, 5000);
-        write(x, "0:1000*3;1:0500;0:100;");
+        Made.write(x, "0:1000*3;1:0500;0:100;");
         Due.due("carry", x.carry(), 5);
         Due.due("blows of 0", x.pileOf(0, 4), 4);
         Due.due("blows of 1", x.pileOf(1, 4), 1);
@@ -178,7 +171,7 @@ final class RecordsTest {
         Due.due("carried again", x.carry(), 5);
         Due.due("all blows", x.count(3), 10);
         x.clearText();
-        write(x, "1:100*40;");
+        Made.write(x, "1:100*40;");
         Due.due("40 blows", x.carry(), 40);
         PileSets y = new PileSets();
         Due.due("an empty text", y.carry(), 0);
@@ -190,7 +183,7 @@ final class RecordsTest {
         x.pile(0, 0, 1000);
         x.pile(1, 0, 1000);
         x.set(5, 50);
-        write(x, "0:3000*40;1:3000*3;0:3000;");
+        Made.write(x, "0:3000*40;1:3000*3;0:3000;");
         // Pile 1 comes to 1000 too, but is never deeper than pile 0.
         Due.due("two and two", x.carry(), 4);
         Due.due("both at their lengths", x.count(6), 2000);
@@ -199,14 +192,14 @@ final class RecordsTest {
         Due.due("changes nothing", x.count(3), 4);
         PileSets z = new PileSets();
         z.pile(0, 0, 1000);
-        GroundTest.pressTo(z, 0, 999);
-        write(z, "0:1000*2;");
+        Made.pressTo(z, 0, 999);
+        Made.write(z, "0:1000*2;");
         Due.due("one is left", z.carry(), 1);
         PileSets y = new PileSets();
         y.set(5, 50);
         y.pile(0, 0, 1000);
         y.pile(1, 0, 2000);
-        write(y, "0:3000*3;1:3000*3;0:3000;");
+        Made.write(y, "0:3000*3;1:3000*3;0:3000;");
         // The third blow on pile 1 comes to 1500, and lifts pile 0 from its length by 250.
         Due.due("a lifted one is struck again", y.carry(), 2 + 3 + 1);
         Due.due("at its length again", y.pileOf(0, 3), 1000);
@@ -216,7 +209,7 @@ final class RecordsTest {
         PileSets x = new PileSets();
         x.pile(0, 0, 5000);
         x.pile(1, 0, 5000);
-        write(x, "0:1000*3;1:2000*4;");
+        Made.write(x, "0:1000*3;1:2000*4;");
         x.carry();
         Due.due("one change", x.count(4), 3);
         Due.due("undo", x.undo(), 2);
@@ -230,7 +223,7 @@ final class RecordsTest {
     private static void carryErrors() {
         PileSets x = new PileSets();
         x.pile(0, 0, 5000);
-        write(x, "0:1000;0:3001;");
+        Made.write(x, "0:1000;0:3001;");
         Due.due("a fault behind", x.carry(), -2);
         Due.due("no blow at all", x.count(3), 0);
         Due.due("no change", x.count(4), 1);
@@ -244,17 +237,17 @@ final class RecordsTest {
         for (int i = 0; i < 8; i++) {
             text.append("0:0100*40;");
         }
-        write(x, text.toString());
+        Made.write(x, text.toString());
         Due.due("80 characters", x.count(5), 80);
         Due.due("no fault", x.fault(0), -4);
         Due.due("carried", x.carry(), 320);
         x.clearText();
-        write(x, text.substring(0, 79) + "0");
+        Made.write(x, text.substring(0, 79) + "0");
         dueFault("the last one open", x, 70, 1);
         x.clearText();
-        write(x, "0:100;0:100;0:100;0:100;0:100;0:100;0:100;0:100;0:100;0:100;0:100;0:100;0:100;");
+        Made.write(x, "0:100;0:100;0:100;0:100;0:100;0:100;0:100;0:100;0:100;0:100;0:100;0:100;0:100;");
         Due.due("13 parts", x.carry(), 13);
-        write(x, "00");
+        Made.write(x, "00");
         dueFault("behind 13 parts", x, 78, 1);
     }
 }
