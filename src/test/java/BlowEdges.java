@@ -108,6 +108,10 @@ final class BlowEdges {
         x.strike(0, 3000);
         Due.due("the greatest", x.count(20), 1429 + 300000);
         Due.due("the greatest on the way", x.pileOf(0, 5), 300000 / 503);
+        x.set(0, 137);
+        x.set(1, 21);
+        x.strike(0, 101);
+        Due.due("rounded down in the end alone", x.count(20), 301429 + 29);
     }
 
     private static void leastSets() {

@@ -408,7 +408,8 @@ final class LiftEdges {
         x.set(2, 10);
         x.strike(0, 1500);
         Due.due("load", x.pileOf(0, 5), 29);
-        int[][] safeties = {{100, 29, 14}, {200, 14, 7}, {300, 9, 4}, {386, 7, 3}, {387, 7, 3}, {500, 5, 2}};
+        int[][] safeties = {{100, 29, 14}, {145, 20, 10}, {200, 14, 7}, {290, 10, 5}, {300, 9, 4},
+            {386, 7, 3}, {387, 7, 3}, {500, 5, 2}};
         for (int[] safety : safeties) {
             x.set(3, safety[0]);
             Due.due("with " + safety[0], x.pileOf(0, 6), safety[1]);

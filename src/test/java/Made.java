@@ -42,12 +42,15 @@ final class Made {
 
     /** Brings a foot to a depth by tests, for those lift nothing; one test can press by some 7900 anywhere. */
     static void pressTo(PileSets x, int pile, int depth) {
-        for (int foot = x.pileOf(pile, 3); foot < depth; foot = x.pileOf(pile, 3)) {
+        int foot = x.pileOf(pile, 3);
+        for (int step = 0; step < 8 && foot < depth; step++) {
             int layer = x.at(foot);
             int held = (layer < 0 ? 2000 : x.ground(layer, 1)) * 10 + foot / 100;
             int press = Math.min(7000, depth - foot);
             Due.due("pressed by", x.test(pile, held + (press - 1) * 10 + 1), press);
+            foot = x.pileOf(pile, 3);
         }
+        Due.dueTrue("pressed to " + depth, foot >= depth);
     }
 
     static void write(PileSets x, String text) {

@@ -93,7 +93,8 @@ final class RunsTest {
     private static void loadsOfRuns() {
         PileSets x = Made.withSets();
         // With 9 more of the fall the set is the same, but the load is 100 + 90 / (set + 10).
-        int[][] falls = {{Made.fallOf(40) + 9, Made.fallOf(40), Made.fallOf(41)}, {Made.fallOf(20), Made.fallOf(20) + 9, Made.fallOf(20) + 9}};
+        int[][] falls = {{Made.fallOf(40) + 9, Made.fallOf(40), Made.fallOf(41)},
+            {Made.fallOf(20), Made.fallOf(20) + 9, Made.fallOf(20) + 9}};
         for (int[] run : falls) {
             for (int fall : run) {
                 x.strike(0, fall);
