@@ -31,7 +31,9 @@ final class FaceTest {
         constructors();
         methods();
         fields();
-        source(Path.of(args[0], "src", "main", "java", "PileSets.java"));
+        String source = Files.readString(Path.of(args[0], "src", "main", "java", "PileSets.java"));
+        forbidden(source);
+        documentFace(Path.of(args[0], "..", "shared", "DOC.md"), source);
         Due.end("FaceTest");
     }
 
@@ -107,11 +109,29 @@ final class FaceTest {
         }
     }
 
-    private static void source(Path file) throws IOException {
-        String source = Files.readString(file).replaceAll("(?s)/\\*.*?\\*/", "").replaceAll("//[^\n]*", "");
+    private static void forbidden(String source) {
+        String code = source.replaceAll("(?s)/\\*.*?\\*/", "").replaceAll("//[^\n]*", "");
         for (String forbidden : FORBIDDEN) {
-            Matcher matcher = Pattern.compile(forbidden).matcher(source);
+            Matcher matcher = Pattern.compile(forbidden).matcher(code);
             Due.dueTrue("no " + forbidden + " in the source", !matcher.find());
         }
+    }
+
+    /** Each line of the face that the document shows stands in the source, with the names of its parameters. */
+    private static void documentFace(Path document, String source) throws IOException {
+        if (!Files.isReadable(document)) {
+            System.out.println("no document at " + document + ": the face is not compared with it");
+            return;
+        }
+        int lines = 0;
+        for (String told : Files.readAllLines(document)) {
+            if (told.trim().startsWith("public ")) {
+                boolean isCall = told.contains("(");
+                String due = isCall ? told.replace(";", " {") : told;
+                Due.dueTrue("the source has '" + due + "'", source.contains(due + "\n"));
+                lines++;
+            }
+        }
+        Due.due("lines of the face in the document", lines, METHODS.length + 6);
     }
 }
